@@ -464,11 +464,7 @@ public final class TubesOfCourt {
         if (what < 0 || what > 2 || (what == 2 && ministry.capsules == 0)) {
             return refuse(BEYOND);
         }
-        if (n > MOST_LEGS) {
-            return refuse(WRONG);
-        }
-        draft.takeOver(ministry);
-        if (days.findWrong(draft, ways, shelves, s, n) != NONE) {
+        if (!standsOnDraft(s, n)) {
             return refuse(WRONG);
         }
         if (what == 0) {
@@ -482,11 +478,7 @@ public final class TubesOfCourt {
         if (refusal < 0) {
             return refuse(refusal);
         }
-        if (n > MOST_LEGS) {
-            return refuse(WRONG);
-        }
-        draft.takeOver(ministry);
-        if (days.findWrong(draft, ways, shelves, s, n) != NONE) {
+        if (!standsOnDraft(s, n)) {
             return refuse(WRONG);
         }
         ministry.takeOver(draft);
@@ -648,6 +640,14 @@ public final class TubesOfCourt {
             return BELOW;
         }
         return n > shelves.sizeOf(s) ? BEYOND : 0;
+    }
+
+    private boolean standsOnDraft(int s, int n) {
+        if (n > MOST_LEGS) {
+            return false;
+        }
+        draft.takeOver(ministry);
+        return days.findWrong(draft, ways, shelves, s, n) == NONE;
     }
 
     private static boolean isOneToNine(int v) {
@@ -1068,7 +1068,7 @@ public final class TubesOfCourt {
 
         int longestFrom(Ministry m, int d) {
             int longest = 0;
-            for (int e = 0; e < m.desks && m.hasDesk(d); e++) {
+            for (int e = 0; e < m.desks && e < MOST_DESKS && m.hasDesk(d); e++) {
                 longest = Math.max(longest, table[d][e]);
             }
             return longest;

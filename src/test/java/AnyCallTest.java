@@ -6,6 +6,7 @@ public final class AnyCallTest {
     private static final Random DRAWS = new Random(1984L);
     private static final int[] EDGES = {-2147483648, -11, -2, -1, 0, 1, 2, 3, 4, 5, 6, 7, 8, 9, 10, 15, 16, 40, 41,
         60, 61, 160, 161, 255, 256, 500, 501, 1073741824, 2147483647};
+    private static long latest = 0;
 
     public static void main(String[] args) {
         for (int run = 0; run < 300; run++) {
@@ -16,14 +17,14 @@ public final class AnyCallTest {
                 boolean single = which <= 40;
                 boolean looks = single && run < 20;
                 String ahead = looks ? Due.stateOf(x) : "";
-                int refused = refusals(x);
+                int[] refused = refusals(x);
                 String call = call(x, which);
-                int more = refusals(x) - refused;
                 if (single) {
-                    DUE.is(call + " is refused once at most", more == 0 || more == 1 ? 1 : 0, 1);
-                }
-                if (looks && more == 1) {
-                    DUE.is(call + " changed nothing", Due.stateOf(x).equals(ahead) ? 1 : 0, 1);
+                    int number = refusalOf(which, latest);
+                    counted(call, refused, refusals(x), number);
+                    if (looks && number > 0) {
+                        DUE.is(call + " changed nothing", Due.stateOf(x).equals(ahead) ? 1 : 0, 1);
+                    }
                 }
             }
         }
@@ -31,12 +32,31 @@ public final class AnyCallTest {
         DUE.end();
     }
 
-    private static int refusals(TubesOfCourt x) {
-        int sum = 0;
-        for (int what = 11; what <= 17; what++) {
-            sum += x.status(what);
+    private static int[] refusals(TubesOfCourt x) {
+        int[] counts = new int[8];
+        for (int number = 1; number <= 7; number++) {
+            counts[number] = x.status(10 + number);
         }
-        return sum;
+        return counts;
+    }
+
+    /** Which refusal an answer is, upward from 1; 0 if it is none. */
+    private static int refusalOf(int which, long answer) {
+        switch (which) {
+            case 4: case 6: case 18: case 35: case 36: case 37: case 40:
+                return 0;
+            case 20: case 22: case 23: case 24: case 26: case 27: case 28: case 30:
+                return answer <= -11 ? (int) (-10 - answer) : 0;
+            default:
+                return answer < 0 ? (int) -answer : 0;
+        }
+    }
+
+    private static void counted(String call, int[] ahead, int[] behind, int number) {
+        DUE.is(call + " is no refusal", number <= 7 ? 1 : 0, 1);
+        for (int i = 1; i <= 7; i++) {
+            DUE.is(call + " counts refusal " + i, behind[i] - ahead[i], i == number ? 1 : 0);
+        }
     }
 
     private static int any() {
@@ -93,6 +113,7 @@ public final class AnyCallTest {
             case 41: answer = anyPlan(x, a); break;
             default: answer = anyRow(x, a); break;
         }
+        latest = answer;
         return "call " + which + " (" + a + ", " + b + ", " + c + ", " + d + ") = " + answer;
     }
 

@@ -206,7 +206,17 @@ public final class AskedTest {
         DUE.is("minute -1", x.stuck(0, 5), -6);
         x.set(0, 9, 0);
         DUE.is("8", x.stuck(0, 8), 0);
-        int[] counted = {1, 1, 1, 1, 2, 6, 0};
+        DUE.is("9, all of which may be", x.stuck(0, 9), -6);
+        x.set(0, 0, -1);
+        DUE.is("the first desk", x.stuck(0, 1), -6);
+        x.set(0, 0, 5);
+        DUE.is("the first desk", x.stuck(0, 1), -6);
+        x.set(0, 0, 0);
+        x.set(0, 1, 1000);
+        DUE.is("the first minute", x.stuck(0, 1), -6);
+        x.set(0, 1, -1);
+        DUE.is("the first minute", x.stuck(0, 1), -6);
+        int[] counted = {1, 1, 1, 1, 2, 11, 0};
         for (int i = 0; i < counted.length; i++) {
             DUE.is("counted " + i, x.status(11 + i), counted[i]);
         }

@@ -54,12 +54,17 @@ public final class ImageTest {
         x.show(1, 1);
         x.show(2, 0);
         Due.putRow(x, 3, 2, 77);
-        x.show(0, -1);
+        Due.putRow(x, 4, 0, 78);
+        x.show(0, 1);
+        x.show(5, 1);
+        x.show(5, -1);
         x.restore();
         DUE.is("shelves are not of the image", x.holds(0), -1);
         DUE.is("none of that number", x.holds(1), -1);
         DUE.is("that of this number", x.holds(2), 0);
         DUE.is("a row stays", x.element(3, 0), 77);
+        DUE.is("a row of bytes stays", x.element(4, 0), 78);
+        DUE.is("nothing stays", x.holds(5), -1);
         DUE.is("nothing says nothing", x.says(1, 0), -3);
         x.capsule(2, 0, 9, 0);
         DUE.is("nothing yet", x.holds(1), -1);

@@ -56,6 +56,9 @@ public final class MinistryTest {
         DUE.is("wrong ahead of room", x.tube(0, 0, 1, 1), -6);
         DUE.is("nobody ahead of room", x.tube(0, 2, 1, 1), -1);
         DUE.is("how many", x.status(1), 16);
+        DUE.is("refused -1", x.status(11), 5);
+        DUE.is("refused -6", x.status(16), 6);
+        DUE.is("refused -7", x.status(17), 1);
         DUE.is("none is shut", x.status(6), 0);
     }
 
@@ -76,6 +79,9 @@ public final class MinistryTest {
         DUE.is("room", x.capsule(1, 1, 1, 0), -7);
         DUE.is("wrong ahead of room", x.capsule(1, 1, 10, 0), -6);
         DUE.is("how many", x.status(2), 5);
+        DUE.is("refused -1", x.status(11), 3);
+        DUE.is("refused -6", x.status(16), 5);
+        DUE.is("refused -7", x.status(17), 1);
     }
 
     private static void shut() {
