@@ -654,6 +654,10 @@ public final class TubesOfCourt {
         return v >= 1 && v <= 9;
     }
 
+    private static boolean isDeskNumber(int d) {
+        return d >= 0 && d < MOST_DESKS;
+    }
+
     private static boolean isUnder(int kind, int wanted) {
         int above = kind;
         for (int i = 0; i < KINDS && above >= 0 && above < KINDS; i++) {
@@ -978,7 +982,7 @@ public final class TubesOfCourt {
         }
 
         private boolean comesNearer(int one, int next, int taken) {
-            if (reach[one] == FAR || reach[one] + taken >= reach[next]) {
+            if (!isDeskNumber(one) || !isDeskNumber(next) || reach[one] == FAR || reach[one] + taken >= reach[next]) {
                 return false;
             }
             reach[next] = reach[one] + taken;
@@ -990,6 +994,10 @@ public final class TubesOfCourt {
                 spread(m, d);
                 System.arraycopy(reach, 0, table[d], 0, MOST_DESKS);
             }
+        }
+
+        int between(int one, int other) {
+            return isDeskNumber(one) && isDeskNumber(other) ? table[one][other] : FAR;
         }
 
         int minutesTo(Ministry m, int c, int d, int pressure) {
@@ -1021,15 +1029,15 @@ public final class TubesOfCourt {
             int start = m.at[c];
             prepareFor(m, c, m.pressure);
             fillTable(m);
-            int least = table[start][d];
+            int least = between(start, d);
             if (start == d || least == FAR) {
                 return NONE;
             }
             for (int t = 0; t < m.tubes && t < MOST_TUBES; t++) {
-                if (forth[t] && m.from[t] == start && minutes[t] + table[m.to[t]][d] == least) {
+                if (forth[t] && m.from[t] == start && minutes[t] + between(m.to[t], d) == least) {
                     return t;
                 }
-                if (back[t] && m.to[t] == start && minutes[t] + table[m.from[t]][d] == least) {
+                if (back[t] && m.to[t] == start && minutes[t] + between(m.from[t], d) == least) {
                     return t;
                 }
             }
@@ -1068,8 +1076,8 @@ public final class TubesOfCourt {
 
         int longestFrom(Ministry m, int d) {
             int longest = 0;
-            for (int e = 0; e < m.desks && e < MOST_DESKS && m.hasDesk(d); e++) {
-                longest = Math.max(longest, table[d][e]);
+            for (int e = 0; e < m.desks && e < MOST_DESKS; e++) {
+                longest = Math.max(longest, between(d, e));
             }
             return longest;
         }
@@ -1112,7 +1120,7 @@ public final class TubesOfCourt {
         }
 
         private int leastOver(Ways ways, int left, int from, int d, int stay) {
-            int first = ways.table[from][d];
+            int first = ways.between(from, d);
             int rest = bestOf(left & ~(1 << d), d);
             return first == FAR || rest == FAR ? FAR : first + stay + rest;
         }
@@ -1197,20 +1205,26 @@ public final class TubesOfCourt {
                     boolean fromSeen = (seen & 1 << m.from[t]) != 0;
                     boolean toSeen = (seen & 1 << m.to[t]) != 0;
                     if (fromSeen && !toSeen && flow[t] < (ways.forth[t] ? 1 : 0)) {
-                        cameBy[m.to[t]] = t;
-                        seen |= 1 << m.to[t];
+                        seen |= comeBy(t, m.to[t]);
                     } else if (toSeen && !fromSeen && -flow[t] < (ways.back[t] ? 1 : 0)) {
-                        cameBy[m.from[t]] = t;
-                        seen |= 1 << m.from[t];
+                        seen |= comeBy(t, m.from[t]);
                     }
                 }
             }
             return (seen & 1 << goal) != 0;
         }
 
+        private int comeBy(int t, int d) {
+            if (!isDeskNumber(d)) {
+                return 0;
+            }
+            cameBy[d] = t;
+            return 1 << d;
+        }
+
         private void takeWay(Ministry m, int start, int goal) {
             int d = goal;
-            for (int i = 0; i < MOST_DESKS && d != start; i++) {
+            for (int i = 0; i < MOST_DESKS && d != start && isDeskNumber(d); i++) {
                 int t = cameBy[d];
                 if (!m.hasTube(t)) {
                     return;
@@ -1235,7 +1249,7 @@ public final class TubesOfCourt {
             ways.fillTable(m);
             for (int t = 0; t < m.tubes && t < MOST_TUBES; t++) {
                 for (int d = 0; d < m.desks && d < MOST_DESKS; d++) {
-                    delays[t][d] = Math.min(ways.table[m.from[t]][d], ways.table[m.to[t]][d]);
+                    delays[t][d] = Math.min(ways.between(m.from[t], d), ways.between(m.to[t], d));
                 }
             }
         }
@@ -1338,6 +1352,9 @@ public final class TubesOfCourt {
         }
 
         private boolean joins(int one, int other) {
+            if (!isDeskNumber(one) || !isDeskNumber(other)) {
+                return false;
+            }
             int kept = group[one];
             int given = group[other];
             if (kept == given) {

@@ -8,6 +8,7 @@ import java.nio.file.Files;
 import java.nio.file.Path;
 import java.util.Set;
 import java.util.TreeSet;
+import java.util.regex.Matcher;
 import java.util.regex.Pattern;
 
 /** Some rules of ../shared/LANGUAGE.md that can be told from the text or the compiled class. */
@@ -16,14 +17,51 @@ public final class LanguageTest {
 
     public static void main(String[] args) throws IOException {
         words();
+        methodsAreShort();
+        objectsAreMadeOnce();
         face();
         classesInside();
         DUE.end();
     }
 
+    private static String text() throws IOException {
+        return Files.readString(Path.of("src/main/java/TubesOfCourt.java"), StandardCharsets.UTF_8);
+    }
+
+    /** The text without comments and without what stands in quotes. */
+    private static String code(String text) {
+        return text.replaceAll("(?s)/\\*.*?\\*/", "").replaceAll("//[^\n]*", "")
+            .replaceAll("\"[^\"]*\"", "\"\"");
+    }
+
+    /** Methods stay short (some sixty lines). */
+    private static void methodsAreShort() throws IOException {
+        String text = text();
+        Matcher heads = Pattern.compile("(?m)^( {4}| {8})(?=\\S)[\\w ]+\\w+\\(.*\\) \\{$").matcher(text);
+        int found = 0;
+        while (heads.find()) {
+            found++;
+            int end = text.indexOf("\n" + heads.group(1) + "}", heads.start());
+            long lines = text.substring(heads.start(), Math.max(end, heads.start())).lines().count() + 1;
+            DUE.is(heads.group().strip() + " has lines above 60", Math.max(lines, 60), 60);
+        }
+        DUE.holds("methods are found", found > 100);
+    }
+
+    /** All objects are made with the object itself: no call makes one, whatever the calls are. */
+    private static void objectsAreMadeOnce() throws IOException {
+        Pattern makes = Pattern.compile("\\bnew\\b|\\b(clone|copyOf\\w*|substring|toCharArray|values|append)\\(");
+        Pattern field = Pattern.compile("^ +private final [\\w\\[\\]]+ \\w+ = new .*;$");
+        code(text()).lines().filter(line -> makes.matcher(line).find())
+            .forEach(line -> DUE.holds("made in a constructor: " + line.strip(), field.matcher(line).matches()));
+        for (Method method : TubesOfCourt.class.getDeclaredMethods()) {
+            DUE.holds(method.getName() + " has seven parameters at most", method.getParameterCount() <= 7);
+        }
+    }
+
     private static void words() throws IOException {
-        String text = Files.readString(Path.of("src/main/java/TubesOfCourt.java"), StandardCharsets.UTF_8);
-        String code = text.replaceAll("(?s)/\\*.*?\\*/", "").replaceAll("//[^\n]*", "").replaceAll("\"[^\"]*\"", "\"\"");
+        String text = text();
+        String code = code(text);
         String[] banned = {"throw", "throws", "try", "catch", "finally", "synchronized", "assert", "package",
             "Thread", "System\\.(?!arraycopy)", "Random", "\\w+Exact", "hashCode", "toString", "->", "::", "@"};
         for (String word : banned) {
@@ -63,6 +101,16 @@ public final class LanguageTest {
 
     private static void classesInside() {
         Class<?>[] inside = TubesOfCourt.class.getDeclaredClasses();
+        Set<String> open = new TreeSet<>();
+        for (Method method : TubesOfCourt.class.getMethods()) {
+            open.add(method.getName());
+        }
+        for (Class<?> one : inside) {
+            for (Method method : one.getDeclaredMethods()) {
+                DUE.is(method.getName() + " bears a public name", open.contains(method.getName()) ? 1 : 0, 0);
+                DUE.holds(method.getName() + " has seven parameters at most", method.getParameterCount() <= 7);
+            }
+        }
         DUE.is("a dozen classes at most", inside.length <= 12 ? 1 : 0, 1);
         for (Class<?> one : inside) {
             DUE.is(one.getName() + " is static", Modifier.isStatic(one.getModifiers()) ? 1 : 0, 1);
