@@ -11,6 +11,7 @@ public final class AskedBoundsTest {
         fits();
         notCome();
         listenUntold();
+        listenEight();
         listenWorst();
         listenNone();
         enough();
@@ -24,6 +25,7 @@ public final class AskedBoundsTest {
         behind();
         inTruth();
         months();
+        nothingIsChanged();
         DUE.end();
     }
 
@@ -135,6 +137,25 @@ public final class AskedBoundsTest {
         DUE.is("never is another than at once", shut.listen(0, 1), 2);
         Due.putRow(shut, 0, 1, 1, 5, 2, 5);
         DUE.is("2 is told: 0 and 3 are never heard from either", shut.listen(0, 2), 0);
+    }
+
+    /** Two tubes that are alike, and how many of eight desks are told. */
+    private static void listenEight() {
+        DUE.sentence("LISTEN: the DESK, not told");
+        TubesOfCourt x = Due.line(8, 1, 1);
+        x.tube(0, 1, 1, 1);
+        x.row(0, 1, 16);
+        for (int d = 0; d < 8; d++) {
+            x.set(0, 2 * d, d);
+            x.set(0, 2 * d + 1, 100 + Math.max(1, d));
+        }
+        for (int n = 2; n < 8; n++) {
+            DUE.is("told up to " + n, x.listen(0, n), n);
+        }
+        DUE.is("all are told", x.listen(0, 8), -1);
+        x.set(0, 14, 6);
+        x.set(0, 15, 106);
+        DUE.is("one of eight is told twice", x.listen(0, 8), 7);
     }
 
     private static void listenWorst() {
@@ -430,5 +451,53 @@ public final class AskedBoundsTest {
         }
         DUE.holds("some have no way", none > 9);
         DUE.holds("some sign", signed > 9);
+    }
+
+    private static TubesOfCourt manyTold() {
+        TubesOfCourt x = Due.line(4, 2, 9);
+        x.capsule(QUEEN, 3, 2, 0);
+        x.capsule(6, 3, 2, 1);
+        x.shut(2, true);
+        x.send(1, 0, true);
+        x.act(1, 2, 3);
+        Due.putRow(x, 0, 3, 0, 5);
+        Due.putRow(x, 1, 1, 11, 121, 111);
+        Due.putText(x, 2, "desk;x");
+        x.plan(2);
+        x.image();
+        return x;
+    }
+
+    private static String answers(TubesOfCourt x) {
+        StringBuilder all = new StringBuilder();
+        for (int what = 0; what < 3; what++) {
+            all.append(x.way(0, 2, what)).append(' ').append(x.behind(1, 3, what)).append(' ');
+        }
+        for (int what = 0; what < 2; what++) {
+            all.append(x.meet(0, 1, what)).append(' ').append(x.cut(0, 2, what)).append(' ');
+            all.append(x.tree(what)).append(' ').append(x.seat(1, what)).append(' ');
+        }
+        all.append(x.within(0, 9)).append(' ').append(x.within(0, -1)).append(' ');
+        all.append(x.round(1, 7, 3, -1)).append(' ').append(x.round(1, 7, 3, 1)).append(' ');
+        all.append(x.stuck(0, 1)).append(' ').append(x.listen(0, 1)).append(' ');
+        all.append(x.enough(0, 2, 9)).append(' ').append(x.judge(1, 3)).append(' ').append(x.time(0, 0));
+        return all.toString();
+    }
+
+    private static void nothingIsChanged() {
+        DUE.sentence("3. WHAT COMES OF IT (nothing is changed)");
+        TubesOfCourt x = manyTold();
+        String ahead = Due.stateOf(x);
+        String first = answers(x);
+        DUE.holds("the same answers again", answers(x).equals(first));
+        DUE.holds("all is as it was", Due.stateOf(x).equals(ahead));
+        DUE.is("the fault", x.fault(), 5);
+        DUE.is("the trace", x.trace(1), 71);
+        x.restore();
+        DUE.holds("the image is as it was", Due.stateOf(x).equals(ahead));
+        DUE.is("minutes", x.status(4), manyTold().status(4));
+        for (int what = 11; what <= 17; what++) {
+            DUE.is("refused " + what, x.status(what), what == 16 ? 1 : 0);
+        }
     }
 }

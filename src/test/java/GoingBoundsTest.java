@@ -392,6 +392,17 @@ public final class GoingBoundsTest {
         DUE.is("none, no minutes", x.meet(0, 2, 1), -1);
         DUE.is("where both are", x.meet(1, 3, 0), 3);
         DUE.is("in 0 minutes", x.meet(1, 3, 1), 0);
+        TubesOfCourt eight = Due.withDesks(8);
+        eight.tube(0, 7, 2, 9);
+        eight.tube(6, 7, 2, 9);
+        eight.capsule(CAT, 0, 1, 0);
+        eight.capsule(CAT, 0, 1, 6);
+        eight.capsule(QUEEN, 0, 1, 7);
+        eight.capsule(CAT, 0, 1, 1);
+        DUE.is("the eighth", eight.meet(0, 1, 0), 7);
+        DUE.is("minutes to the eighth", eight.meet(0, 1, 1), 2);
+        DUE.is("where she stays", eight.meet(2, 0, 0), 7);
+        DUE.is("the eighth is nowhere for one", eight.meet(3, 2, 0), -1);
     }
 
     private static void cut() {
@@ -423,6 +434,29 @@ public final class GoingBoundsTest {
         DUE.is("two ways that cross", crossed.cut(0, 3, 0), 2);
         crossed.shut(1, true);
         DUE.is("one is left", crossed.cut(0, 3, 0), 1);
+        cutsOfAll();
+    }
+
+    /** Eight desks: of ways down from 0 to 7, one is found first that is in the way of two others. */
+    private static void cutsOfAll() {
+        TubesOfCourt x = Due.withDesks(8);
+        x.tube(0, 1, 1, 9);
+        x.tube(1, 2, 1, 9);
+        x.tube(2, 7, 1, 9);
+        x.tube(0, 3, 1, 9);
+        x.tube(3, 2, 1, 9);
+        x.tube(1, 4, 1, 9);
+        x.tube(4, 5, 1, 9);
+        x.tube(5, 6, 1, 9);
+        x.tube(6, 7, 1, 9);
+        x.capsule(QUEEN, 0, 1, 0);
+        x.capsule(0, 0, 1, 7);
+        DUE.is("a queen", x.cut(0, 7, 0), 2);
+        DUE.is("one back", x.cut(1, 0, 0), 2);
+        x.shut(8, true);
+        DUE.is("a queen by one", x.cut(0, 7, 0), 1);
+        DUE.is("one back by one", x.cut(1, 0, 0), 1);
+        DUE.is("a queen to where she comes by two", x.cut(0, 2, 0), 2);
     }
 
     private static void keep() {

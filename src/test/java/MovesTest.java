@@ -138,6 +138,8 @@ public final class MovesTest {
     }
 
     public static void main(String[] args) {
+        DUE.sentence("hisses(..) and so on: the body of the CAPSULE's KIND, or of the next KIND above that has one; "
+            + "super: from the KIND above the body's on.");
         int[] xs = {0, 1, -1, 7, 2147483647, -2147483648, 123456789, -1000000007};
         for (int kind = 0; kind < 7; kind++) {
             for (int m = 0; m < 5; m++) {
@@ -154,6 +156,7 @@ public final class MovesTest {
                 }
             }
         }
+        DUE.promise(36, "0, and no TRACE then: no such CAPSULE, move.");
         none();
         DUE.end();
     }

@@ -5,6 +5,7 @@ public final class PromiseBoundsTest {
     private static final int CAT = 5;
 
     public static void main(String[] args) {
+        none();
         newObject();
         row();
         set();
@@ -47,6 +48,11 @@ public final class PromiseBoundsTest {
         status();
         DUE.everyPromise();
         DUE.end();
+    }
+
+    private static void none() {
+        DUE.sentence("public static final int NONE = -1;");
+        DUE.is("NONE", TubesOfCourt.NONE, -1);
     }
 
     private static void newObject() {
@@ -852,8 +858,10 @@ public final class PromiseBoundsTest {
             x.show(s, s);
         }
         x.row(5, 3, 160);
+        x.row(6, 0, 160);
+        x.show(7, 2);
         DUE.is("how many", x.restore(), 2);
-        int[] due = {0, 1, -1, -1, -1, 103, -1, -1};
+        int[] due = {0, 1, -1, -1, -1, 103, 100, -1};
         for (int s = 0; s < 8; s++) {
             DUE.is("shelf " + s, x.holds(s), due[s]);
         }

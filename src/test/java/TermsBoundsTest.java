@@ -337,6 +337,9 @@ public final class TermsBoundsTest {
         }
         DUE.is("what there was", x.capsuleOf(0, 0), 1);
         DUE.is("what is told", x.capsuleOf(1, 0), 4);
+        Due.putText(x, 0, "shut 1;tube 0 2 1 2;capsule 1 1 1 1;pressure 1");
+        DUE.is("plan", x.plan(0), 4);
+        DUE.is("an item tells nothing but its own", x.status(6), 2);
         Due.putText(x, 0, "desk;tube 3 0 3 4;capsule 4 3 2 3;open 0;shut 1;pressure 1;desc");
         String ahead = Due.stateOf(x);
         DUE.is("plan", x.plan(0), -6);
