@@ -58,6 +58,17 @@ public final class AskedBoundsTest {
         x.shut(3, true);
         Due.putRow(x, 0, 1, 1, 7, 3, 25);
         DUE.is("the longer one, if the shorter is shut", x.stuck(0, 2), 1);
+        TubesOfCourt full = Due.withDesks(3);
+        for (int t = 0; t < 15; t++) {
+            full.tube(0, 1, 9, 1);
+        }
+        full.tube(2, 1, 3, 1);
+        Due.putRow(full, 0, 1, 0, 5, 2, 8);
+        DUE.is("on through the sixteenth", full.stuck(0, 2), 32767);
+        Due.putRow(full, 0, 1, 0, 14, 2, 5);
+        DUE.is("from the sixteenth", full.stuck(0, 2), 1 << 15);
+        Due.putRow(full, 0, 1, 1, 5);
+        DUE.is("sixteen, one of which is told by 0", full.listen(0, 1), 0);
     }
 
     private static void knocks() {
@@ -183,6 +194,19 @@ public final class AskedBoundsTest {
         }
         Due.putRow(sixteen, 0, 1, 0, 5);
         DUE.is("sixteen that are alike", sixteen.listen(0, 1), 1);
+        TubesOfCourt halves = Due.withDesks(4);
+        for (int t = 0; t < 16; t++) {
+            halves.tube(0, t < 8 ? 2 : t < 15 ? 3 : 1, 1, 1);
+        }
+        Due.putRow(halves, 0, 1, 0, 5);
+        // 1 leaves fifteen, 2 eight, 3 nine.
+        DUE.is("of sixteen fewest are left by 2", halves.listen(0, 1), 2);
+        TubesOfCourt nine = Due.withDesks(4);
+        for (int t = 0; t < 16; t++) {
+            nine.tube(0, t < 7 ? 1 : t > 7 ? 2 : 3, 1, 1);
+        }
+        Due.putRow(nine, 0, 1, 0, 5);
+        DUE.is("1 leaves nine, 2 eight", nine.listen(0, 1), 2);
     }
 
     private static void listenNone() {

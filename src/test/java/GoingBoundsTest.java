@@ -198,6 +198,25 @@ public final class GoingBoundsTest {
         longest.capsule(QUEEN, 9, 9, 0);
         longest.ask(1);
         DUE.is("the longest of all", longest.way(0, 7, 0), 7 * 90);
+        bySixteenth();
+    }
+
+    /** Fifteen tubes between 0 and 1, and the sixteenth on to 2. */
+    private static void bySixteenth() {
+        TubesOfCourt x = Due.withDesks(3);
+        for (int t = 0; t < 15; t++) {
+            x.tube(0, 1, 9, 9);
+        }
+        x.tube(2, 1, 2, 9);
+        x.capsule(0, 0, 5, 1);
+        x.capsule(QUEEN, 0, 5, 2);
+        DUE.is("by it alone", x.way(0, 2, 0), 2);
+        DUE.is("begins with it", x.way(0, 2, 1), 15);
+        DUE.is("down by it", x.way(1, 1, 1), 15);
+        DUE.is("steps", x.way(0, 2, 2), 1);
+        DUE.is("cut by it", x.cut(0, 2, 0), 1);
+        DUE.is("kept by it", x.cut(0, 2, 1), 1 << 15);
+        DUE.is("cut by fifteen", x.cut(0, 0, 0), 15);
     }
 
     private static void leastMinutes() {
@@ -420,6 +439,8 @@ public final class GoingBoundsTest {
             DUE.is("down", x.cut(2, 1, 0), (wide + 1) / 2);
             DUE.is("none for a cat", x.cut(1, 1, 0), -1);
         }
+        x.capsule(0, 0, 1, 1);
+        DUE.is("all sixteen", x.cut(3, 0, 0), 16);
         x.shut(0, true);
         DUE.is("one is shut", x.cut(0, 1, 0), 13);
         DUE.is("his own", x.cut(0, 0, 0), -16);
@@ -457,6 +478,13 @@ public final class GoingBoundsTest {
         DUE.is("a queen by one", x.cut(0, 7, 0), 1);
         DUE.is("one back by one", x.cut(1, 0, 0), 1);
         DUE.is("a queen to where she comes by two", x.cut(0, 2, 0), 2);
+        TubesOfCourt narrow = Due.line(3, 1, 9);
+        narrow.tube(1, 2, 1, 9);
+        narrow.tube(2, 0, 9, 1);
+        narrow.capsule(0, 0, 2, 0);
+        narrow.capsule(0, 0, 2, 2);
+        DUE.is("one at the beginning, two at the end", narrow.cut(0, 2, 0), 1);
+        DUE.is("two at the beginning, one at the end", narrow.cut(1, 0, 0), 1);
     }
 
     private static void keep() {
@@ -476,6 +504,9 @@ public final class GoingBoundsTest {
         x.shut(15, false);
         x.shut(6, true);
         DUE.is("the last of sixteen", x.cut(0, 7, 1), 31 | 1 << 15);
+        x.send(0, 5, false);
+        DUE.is("the last of sixteen alone", x.cut(0, 7, 1), 1 << 15);
+        x.send(0, 0, false);
         x.shut(0, true);
         DUE.is("he has none now", x.cut(0, 7, 1), 0);
     }

@@ -839,6 +839,25 @@ public final class PromiseBoundsTest {
         x.show(3, -1);
         x.show(4, -1);
         DUE.holds("all else is", Due.stateOf(x).equals(ahead));
+        imageOfAll();
+    }
+
+    private static void imageOfAll() {
+        TubesOfCourt x = Due.withDesks(8);
+        for (int t = 0; t < 16; t++) {
+            x.tube(t % 7, 7, 1 + t % 9, 9 - t % 9);
+        }
+        for (int c = 0; c < 5; c++) {
+            x.capsule(2 + c, 9 - c, 9 - c, 7 - c);
+        }
+        x.shut(15, true);
+        x.send(3, 7, true);
+        String ahead = Due.stateOf(x);
+        x.image();
+        x.months(20);
+        x.shut(15, false);
+        x.restore();
+        DUE.holds("all of a full one", Due.stateOf(x).equals(ahead));
     }
 
     private static void restore() {
@@ -871,6 +890,58 @@ public final class PromiseBoundsTest {
         DUE.is("a new one is shown nowhere", x.holds(2), -1);
         x.image();
         DUE.is("the later image", x.restore(), 3);
+        for (int s = 0; s < 8; s++) {
+            x.capsule(1, 0, 9, 0);
+            x.show(s, 3);
+        }
+        x.restore();
+        for (int s = 0; s < 8; s++) {
+            DUE.is("nothing on shelf " + s, x.holds(s), -1);
+        }
+        restoreDrops();
+    }
+
+    /** What came behind the image is in no answer, as if it had never been. */
+    private static void restoreDrops() {
+        TubesOfCourt x = Due.line(3, 4, 9);
+        x.capsule(QUEEN, 1, 2, 0);
+        x.capsule(0, 1, 2, 2);
+        x.image();
+        String due = asked(x);
+        for (int d = 3; d < 8; d++) {
+            x.desk();
+        }
+        for (int t = 2; t < 16; t++) {
+            x.tube(t % 8, (t + 2) % 8, 1, 9);
+        }
+        x.tube(0, 2, 1, 9);
+        for (int c = 2; c < 5; c++) {
+            x.capsule(CAT, 1, 2, 0);
+        }
+        DUE.holds("other answers", !asked(x).equals(due));
+        x.restore();
+        DUE.holds("the answers of the image", asked(x).equals(due));
+        DUE.is("a desk", x.desk(), 3);
+        DUE.is("a tube", x.tube(3, 0, 1, 9), 2);
+        DUE.is("joined by it alone", x.way(1, 3, 2), 3);
+        DUE.is("not through those that were", x.cut(1, 3, 1), 7);
+    }
+
+    private static String asked(TubesOfCourt x) {
+        StringBuilder all = new StringBuilder();
+        Due.putRow(x, 7, 1, 2, 5);
+        for (int c = 0; c < 2; c++) {
+            for (int d = 0; d < 3; d++) {
+                for (int what = 0; what < 3; what++) {
+                    all.append(x.way(c, d, what)).append(' ').append(x.cut(c, d, what)).append(' ');
+                }
+                all.append(x.enough(c, d, 4)).append(' ').append(x.round(c, 7, 1, d)).append(' ');
+            }
+            all.append(x.within(c, 9)).append(' ').append(x.within(c, -1)).append(' ');
+            all.append(x.seat(c, 0)).append(' ').append(x.seat(c, 1)).append(' ');
+            all.append(x.meet(0, 1, c)).append(' ').append(x.tree(c)).append(' ');
+        }
+        return all.append(x.stuck(7, 1)).append(' ').append(x.listen(7, 1)).toString();
     }
 
     private static void status() {

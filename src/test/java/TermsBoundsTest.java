@@ -337,9 +337,18 @@ public final class TermsBoundsTest {
         }
         DUE.is("what there was", x.capsuleOf(0, 0), 1);
         DUE.is("what is told", x.capsuleOf(1, 0), 4);
-        Due.putText(x, 0, "shut 1;tube 0 2 1 2;capsule 1 1 1 1;pressure 1");
+        Due.putText(x, 0, "shut 1;pressure 8;tube 2 0 3 4;capsule 1 2 3 0");
         DUE.is("plan", x.plan(0), 4);
-        DUE.is("an item tells nothing but its own", x.status(6), 2);
+        DUE.is("an item tells nothing but its own: what is shut", x.status(6), 2);
+        DUE.is("the pressure", x.status(3), 8);
+        int[] tube = {2, 0, 3, 4, 0};
+        for (int what = 0; what < tube.length; what++) {
+            DUE.is("the tube's " + what, x.tubeOf(2, what), tube[what]);
+        }
+        int[] capsule = {1, 2, 3, 0};
+        for (int what = 0; what < capsule.length; what++) {
+            DUE.is("the capsule's " + what, x.capsuleOf(2, what), capsule[what]);
+        }
         Due.putText(x, 0, "desk;tube 3 0 3 4;capsule 4 3 2 3;open 0;shut 1;pressure 1;desc");
         String ahead = Due.stateOf(x);
         DUE.is("plan", x.plan(0), -6);
@@ -356,7 +365,7 @@ public final class TermsBoundsTest {
         fails(capsule.repeat(5) + "capsule 0 0 1 0", 80);
         fails(capsule.repeat(5) + "capsule", 80);
         fails(capsule.repeat(5) + "capsul", 86);
-        TubesOfCourt x = Due.withDesks(2);
+        TubesOfCourt x = Due.withDesks(3);
         for (int t = 0; t < 15; t++) {
             x.tube(0, 1, 1, 1);
         }
@@ -364,9 +373,17 @@ public final class TermsBoundsTest {
         DUE.is("a seventeenth", x.plan(0), -6);
         DUE.is("its word", x.fault(), 13);
         DUE.is("nothing told", x.status(1), 15);
-        Due.putText(x, 0, "tube 1 0 1 1;shut 15");
-        DUE.is("the sixteenth", x.plan(0), 2);
+        Due.putText(x, 0, "tube 2 1 8 7;shut 15" + ";capsule 6 5 4 1".repeat(5));
+        DUE.is("the sixteenth", x.plan(0), 7);
         DUE.is("told", x.status(1), 16);
+        int[] tube = {2, 1, 8, 7, 1};
+        for (int what = 0; what < tube.length; what++) {
+            DUE.is("its " + what, x.tubeOf(15, what), tube[what]);
+        }
+        int[] fifth = {6, 5, 4, 1};
+        for (int what = 0; what < fifth.length; what++) {
+            DUE.is("the fifth capsule's " + what, x.capsuleOf(4, what), fifth[what]);
+        }
     }
 
     private static void planFault() {
