@@ -385,8 +385,9 @@ public final class TubesOfCourt {
         if (refusal < 0) {
             return refuse(refusal);
         }
+        knocks.read(shelves, s, n);
         knocks.hear(ministry, ways);
-        return knocks.fittingTubes(ministry, shelves, s, n);
+        return knocks.fittingTubes(ministry);
     }
 
     public int listen(int s, int n) {
@@ -394,8 +395,9 @@ public final class TubesOfCourt {
         if (refusal < 0) {
             return refuse(FARTHER + refusal);
         }
+        knocks.read(shelves, s, n);
         knocks.hear(ministry, ways);
-        return knocks.nextDesk(ministry, shelves, s, n);
+        return knocks.nextDesk(ministry);
     }
 
     public int enough(int capsule, int desk, int m) {
@@ -803,7 +805,7 @@ public final class TubesOfCourt {
             if (kind[c] == CAT) {
                 return true;
             }
-            if (isShut(t) || bore[t] < weight[c]) {
+            if ((shutBits & 1 << t) != 0 || bore[t] < weight[c]) {
                 return false;
             }
             return isForth || kind[c] != QUEEN;
@@ -839,7 +841,7 @@ public final class TubesOfCourt {
         }
     }
 
-    /** What each shelf holds: NONE, a capsule's number, or 100 and the sort of its row. */
+    /** What each shelf holds: NONE, a capsule's number, or 100 and the sort of its row (else its size is 0). */
     private static final class Shelves {
         private final int[] held = {NONE, NONE, NONE, NONE, NONE, NONE, NONE, NONE};
         private final int[] sizes = new int[MOST_SHELVES];
@@ -858,7 +860,7 @@ public final class TubesOfCourt {
         }
 
         int sizeOf(int s) {
-            return hasRow(s) ? sizes[s] : 0;
+            return hasShelf(s) ? sizes[s] : 0;
         }
 
         void putRow(int s, int sort, int n) {
@@ -872,6 +874,7 @@ public final class TubesOfCourt {
         void putHeld(int s, int capsule) {
             if (hasShelf(s)) {
                 held[s] = capsule;
+                sizes[s] = 0;
             }
         }
 
@@ -1005,7 +1008,8 @@ public final class TubesOfCourt {
                 return NONE;
             }
             prepareFor(m, c, pressure);
-            return leastTo(m, m.at[c], d);
+            spread(m, m.at[c]);
+            return reached(m, d);
         }
 
         int stepsTo(Ministry m, int c, int d) {
@@ -1014,11 +1018,11 @@ public final class TubesOfCourt {
             }
             prepareFor(m, c, m.pressure);
             Arrays.fill(minutes, 1);
-            return leastTo(m, m.at[c], d);
+            spread(m, m.at[c]);
+            return reached(m, d);
         }
 
-        private int leastTo(Ministry m, int start, int d) {
-            spread(m, start);
+        private int reached(Ministry m, int d) {
             return !m.hasDesk(d) || reach[d] == FAR ? NONE : reach[d];
         }
 
@@ -1242,7 +1246,18 @@ public final class TubesOfCourt {
 
     /** In which tube a knock began, and at which desk to listen next. */
     private static final class Knocks {
+        private final int[] toldDesks = new int[MOST_KNOCKS];
+        private final int[] toldMinutes = new int[MOST_KNOCKS];
+        private int told = 0;
         private final int[][] delays = new int[MOST_TUBES][MOST_DESKS];
+
+        void read(Shelves shelves, int s, int n) {
+            told = Math.min(n, MOST_KNOCKS);
+            for (int i = 0; i < told; i++) {
+                toldDesks[i] = shelves.intAt(s, 2 * i);
+                toldMinutes[i] = shelves.intAt(s, 2 * i + 1);
+            }
+        }
 
         void hear(Ministry m, Ways ways) {
             ways.prepareForKnocks(m);
@@ -1254,24 +1269,24 @@ public final class TubesOfCourt {
             }
         }
 
-        int fittingTubes(Ministry m, Shelves shelves, int s, int n) {
+        int fittingTubes(Ministry m) {
             int bits = 0;
             for (int t = 0; t < m.tubes && t < MOST_TUBES; t++) {
-                if (fits(m, shelves, s, n, t)) {
+                if (fits(m, t)) {
                     bits |= 1 << t;
                 }
             }
             return bits;
         }
 
-        private boolean fits(Ministry m, Shelves shelves, int s, int n, int t) {
+        private boolean fits(Ministry m, int t) {
             int began = 0;
-            for (int i = 0; i < n && i < MOST_KNOCKS; i++) {
-                int d = shelves.intAt(s, 2 * i);
+            for (int i = 0; i < told && i < MOST_KNOCKS; i++) {
+                int d = toldDesks[i];
                 if (!m.hasDesk(d) || delays[t][d] == FAR) {
                     return false;
                 }
-                int beganForThis = shelves.intAt(s, 2 * i + 1) - delays[t][d];
+                int beganForThis = toldMinutes[i] - delays[t][d];
                 if (i > 0 && beganForThis != began) {
                     return false;
                 }
@@ -1280,20 +1295,20 @@ public final class TubesOfCourt {
             return true;
         }
 
-        int nextDesk(Ministry m, Shelves shelves, int s, int n) {
-            int fitting = fittingTubes(m, shelves, s, n);
-            int first = shelves.intAt(s, 0);
+        int nextDesk(Ministry m) {
+            int fitting = fittingTubes(m);
+            int first = toldDesks[0];
             if (Integer.bitCount(fitting) < 2 || !m.hasDesk(first)) {
                 return NONE;
             }
-            int told = 0;
-            for (int i = 0; i < n && i < MOST_KNOCKS; i++) {
-                told |= 1 << shelves.intAt(s, 2 * i);
+            int heardAt = 0;
+            for (int i = 0; i < told && i < MOST_KNOCKS; i++) {
+                heardAt |= 1 << toldDesks[i];
             }
             int best = NONE;
             int fewest = MOST_TUBES + 1;
             for (int d = 0; d < m.desks && d < MOST_DESKS; d++) {
-                if ((told & 1 << d) == 0) {
+                if ((heardAt & 1 << d) == 0) {
                     int left = mostLeft(m, fitting, first, d);
                     if (left < fewest) {
                         fewest = left;

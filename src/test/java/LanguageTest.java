@@ -6,7 +6,11 @@ import java.lang.reflect.Modifier;
 import java.nio.charset.StandardCharsets;
 import java.nio.file.Files;
 import java.nio.file.Path;
+import java.util.ArrayList;
+import java.util.List;
+import java.util.Map;
 import java.util.Set;
+import java.util.TreeMap;
 import java.util.TreeSet;
 import java.util.regex.Matcher;
 import java.util.regex.Pattern;
@@ -14,10 +18,18 @@ import java.util.regex.Pattern;
 /** Some rules of ../shared/LANGUAGE.md that can be told from the text or the compiled class. */
 public final class LanguageTest {
     private static final Due DUE = new Due();
+    private static final Pattern HEAD = Pattern.compile("(?m)^( {4}| {8})(?=\\S)[\\w\\[\\] ]+\\b(\\w+)\\(.*\\) \\{$");
+    private static final Pattern CALL = Pattern.compile("\\b(?!(?:if|for|while|switch|return)\\b)(\\w+) ?\\(");
+    private static final int DEEPEST = 8;
+    private static final Set<String> LIBRARY = Set.of("System.arraycopy", "Arrays.copyOf", "Arrays.copyOfRange",
+        "Arrays.fill", "Math.max", "Math.min", "Math.abs", "Math.floorDiv", "Math.floorMod",
+        "Integer.bitCount", "Integer.compare", "Integer.max", "Integer.min");
 
     public static void main(String[] args) throws IOException {
         words();
+        library();
         methodsAreShort();
+        callsAreShallow();
         objectsAreMadeOnce();
         face();
         classesInside();
@@ -37,15 +49,66 @@ public final class LanguageTest {
     /** Methods stay short (some sixty lines). */
     private static void methodsAreShort() throws IOException {
         String text = text();
-        Matcher heads = Pattern.compile("(?m)^( {4}| {8})(?=\\S)[\\w ]+\\w+\\(.*\\) \\{$").matcher(text);
+        Matcher heads = HEAD.matcher(text);
         int found = 0;
         while (heads.find()) {
             found++;
-            int end = text.indexOf("\n" + heads.group(1) + "}", heads.start());
-            long lines = text.substring(heads.start(), Math.max(end, heads.start())).lines().count() + 1;
+            long lines = bodyBehind(text, heads).lines().count() + 1;
             DUE.is(heads.group().strip() + " has lines above 60", Math.max(lines, 60), 60);
         }
         DUE.holds("methods are found", found > 100);
+    }
+
+    private static String bodyBehind(String text, Matcher head) {
+        int end = text.indexOf("\n" + head.group(1) + "}", head.start());
+        return text.substring(head.end(), Math.max(end, head.end()));
+    }
+
+    /** Calls that are no recursion go at most eight deep, the library's counted too. */
+    private static void callsAreShallow() throws IOException {
+        Map<String, Set<String>> calls = callsOfMethods();
+        DUE.holds("methods of the face are found", calls.containsKey("listen") && calls.containsKey("done"));
+        for (String method : calls.keySet()) {
+            List<String> deepest = deepestFrom(method, calls, new ArrayList<>());
+            DUE.holds(String.join(" > ", deepest) + " is no deeper than " + DEEPEST, deepest.size() <= DEEPEST);
+        }
+    }
+
+    /** Methods of one name are taken for one: that finds no fewer calls than there are. */
+    private static Map<String, Set<String>> callsOfMethods() throws IOException {
+        String code = code(text());
+        Map<String, Set<String>> calls = new TreeMap<>();
+        Matcher heads = HEAD.matcher(code);
+        while (heads.find()) {
+            Set<String> called = calls.computeIfAbsent(heads.group(2), name -> new TreeSet<>());
+            Matcher names = CALL.matcher(bodyBehind(code, heads));
+            while (names.find()) {
+                called.add(names.group(1));
+            }
+        }
+        return calls;
+    }
+
+    private static List<String> deepestFrom(String method, Map<String, Set<String>> calls, List<String> open) {
+        List<String> path = new ArrayList<>(open);
+        path.add(method);
+        List<String> deepest = path;
+        for (String called : calls.getOrDefault(method, Set.of())) {
+            List<String> through = path.contains(called) ? path : deepestFrom(called, calls, path);
+            deepest = through.size() > deepest.size() ? through : deepest;
+        }
+        return deepest;
+    }
+
+    /** Of the library's static functions only those that stand in rule 4, and no import but Arrays. */
+    private static void library() throws IOException {
+        String code = code(text());
+        Matcher calls = Pattern.compile("\\b([A-Z]\\w*[a-z]\\w*\\.\\w+)\\(").matcher(code);
+        while (calls.find()) {
+            DUE.holds(calls.group(1) + " stands in rule 4", LIBRARY.contains(calls.group(1)));
+        }
+        code.lines().filter(line -> line.startsWith("import"))
+            .forEach(line -> DUE.holds(line, line.equals("import java.util.Arrays;")));
     }
 
     /** All objects are made with the object itself: no call makes one, whatever the calls are. */
