@@ -1253,7 +1253,7 @@ public final class TubesOfCourt {
 
         void read(Shelves shelves, int s, int n) {
             told = Math.min(n, MOST_KNOCKS);
-            for (int i = 0; i < told; i++) {
+            for (int i = 0; i < told && i < MOST_KNOCKS; i++) {
                 toldDesks[i] = shelves.intAt(s, 2 * i);
                 toldMinutes[i] = shelves.intAt(s, 2 * i + 1);
             }
